@@ -189,6 +189,13 @@ public final class PromiseTests {
         due("3: two bytes, 127", read(x, 1, 195, 127), -1);
         due("3: two bytes, 192", read(x, 1, 195, 192), -1);
         due("3: three bytes end", read(x, 1, 'a', 238, 128), -2);
+        due("3: two bytes, 127, else 959", read(x, 1, 207, 127), -1);
+        due("3: two bytes, 192, else 960", read(x, 1, 206, 192), -1);
+        due("3: two bytes, a plain one, else 929", read(x, 1, 207, 'a'), -1);
+        due("3: three bytes, third too high, else 57409", read(x, 1, 238, 128, 193), -1);
+        due("3: three bytes, third too low, else 57402", read(x, 1, 238, 129, 122), -1);
+        due("3: three bytes, second too high, else 57345", read(x, 1, 237, 192, 129), -1);
+        due("3: three bytes, second too low, else 57345", read(x, 1, 239, 64, 129), -1);
         due("3: three bytes, 127", read(x, 1, 238, 128, 127), -1);
         due("3: three bytes, 192", read(x, 1, 238, 192, 129), -1);
         due("3: too long, two", read(x, 1, 193, 161), -1);
@@ -200,6 +207,39 @@ public final class PromiseTests {
         due("3: order", text(x), 'a', 769, 768, 773, 778, 'b', 768, 773);
         due("3: order behind a composed one", read(x, 1, utf(composed('a', 780), 773, 768)), 3);
         due("3: order behind a composed one", text(x), composed('a', 780), 768, 773);
+    }
+
+    private static void promise3Ranks() {
+        for (int first = 768; first <= 782; first++) {
+            for (int second = 768; second <= 782; second++) {
+                boolean turned = (first - 768) / 5 > (second - 768) / 5;
+                CharacterRows x = holding('a', first, second);
+                due("3: ranks", text(x), 'a', turned ? second : first, turned ? first : second);
+            }
+        }
+    }
+
+    private static boolean isCharacter(int code) {
+        boolean letter = code >= 57344 && code < 57344 + 64 * 15 && Character.isLetter(64 + code % 64);
+        boolean inSet = code >= 192 && code <= 221 || code >= 768 && code <= 782
+            || code >= 913 && code <= 969 || code >= 1040 && code <= 1103;
+        return code >= 32 && code <= 126 || inSet || letter;
+    }
+
+    /** Behind an 'e' each code of kind 1 there is, and each that is one comes out of both kinds as it went in. */
+    private static void everyCode() {
+        CharacterRows x = new CharacterRows();
+        for (int code = 0; code < 65536; code++) {
+            boolean right = isCharacter(code);
+            due("3: code " + code, read(x, 1, utf('e', code)), right ? 2 : -2);
+            if (right) {
+                due("5: code " + code, written(x, 1), utf('e', code));
+            }
+            if (right && code < 57344) {
+                due("3: code " + code + " of kind 0", read(x, 0, written(x, 0)), 2);
+                due("3: code " + code + " of kind 0", text(x), 'e', code);
+            }
+        }
     }
 
     private static void promise3LimitsAndRest() {
@@ -351,6 +391,10 @@ public final class PromiseTests {
         due("8: a read leaves it", x.told(2, 1), 5);
         x.write(0);
         due("8: the latest write", x.told(0, 0), NONE);
+        read(x, 1, utf('q', 'r', composed));
+        x.write(0);
+        due("8: the place in the latest write", x.told(0, 1), 2);
+        due("8: none of the write before", x.told(1, 1), NONE);
         x = holding(composed);
         x.write(0);
         x.write(1);
@@ -468,7 +512,9 @@ public final class PromiseTests {
         promise3OldKind();
         promise3EscapesAndMarks();
         promise3NewKind();
+        promise3Ranks();
         promise3LimitsAndRest();
+        everyCode();
         promise4();
         promise5();
         promise6();
