@@ -343,15 +343,20 @@ public final class ModelTests {
         }
     }
 
-    private static void whole(long seed, CharacterRows x, Model m) {
-        for (int i = 0; i <= 100; i++) {
-            due(seed, "character(" + i + ")", x.character(i), i < m.text.size() ? m.text.get(i) : -1);
-        }
+    /** Looks at the rows from their beginning, or from their end, as far as the calls that are left reach. */
+    private static void whole(long seed, CharacterRows x, Model m, int left) {
+        boolean back = seed % 2 == 0;
         due(seed, "write(0)", x.write(0), m.write(0));
-        for (int i = 0; i <= 400; i++) {
+        int calls = left - 1;
+        for (int k = 0; k <= m.written.size() && calls > 0; k++, calls--) {
+            int i = back ? m.written.size() - k : k;
             due(seed, "octet2(" + i + ")", x.octet2(i), i < m.written.size() ? m.written.get(i).byteValue() : (byte) 0);
         }
-        for (int i = 0; i <= 100; i++) {
+        for (int k = 0; k <= m.text.size() && calls > 0; k++, calls--) {
+            int i = back ? m.text.size() - k : k;
+            due(seed, "character(" + i + ")", x.character(i), i < m.text.size() ? m.text.get(i) : -1);
+        }
+        for (int i = 0; i <= m.told.size() && calls > 1; i++, calls -= 2) {
             due(seed, "told(" + i + ", 0)", x.told(i, 0), m.told(i, 0));
             due(seed, "told(" + i + ", 1)", x.told(i, 1), m.told(i, 1));
         }
@@ -362,25 +367,28 @@ public final class ModelTests {
         CharacterRows x = new CharacterRows();
         Model m = new Model();
         int oddness = pick(r, 0, 0, 0, 1, 10);
+        int kept = pick(r, 10, 50, 250);
+        int left = CALLS;
         List<Integer> before = List.of();
-        for (int call = 0; call < CALLS; call++) {
-            if (r.nextInt(10) != 0) {
-                otherCall(seed, r, x, m);
-                continue;
-            }
+        while (left > kept) {
             int kind = kind(r);
             List<Integer> bytes = r.nextInt(5) == 0 ? before : octets(r, kind, oddness);
+            if (r.nextInt(10) != 0 || bytes.size() + 1 > left - kept) {
+                otherCall(seed, r, x, m);
+                left--;
+                continue;
+            }
             before = bytes;
             for (int b : bytes) {
                 x.octet((byte) b);
                 if (m.collected.size() < 200) m.collected.add(b);
-                call++;
             }
             int want = m.read(kind);
             due(seed, "read(" + kind + ") of " + bytes, x.read(kind), want);
+            left -= bytes.size() + 1;
             seen[want < 0 ? 0 : want == 0 ? 1 : want < 60 ? 2 : 3]++;
         }
-        whole(seed, x, m);
+        whole(seed, x, m, left);
     }
 
     public static void main(String[] args) {

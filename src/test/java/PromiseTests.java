@@ -31,6 +31,10 @@ public final class PromiseTests {
         return x.read(kind);
     }
 
+    private static int readAnew(int kind, int... bytes) {
+        return read(new CharacterRows(), kind, bytes);
+    }
+
     /** The bytes of kind 1, also of codes (surrogates) that the library's own UTF-8 does not write. */
     private static int[] utf(int... codes) {
         int[] row = new int[0];
@@ -111,10 +115,11 @@ public final class PromiseTests {
     private static void promise2() {
         CharacterRows x = new CharacterRows();
         due("2: 200 bytes, then lost ones", read(x, 1, join(many(66, utf(composed('a', 768))), utf('b', 'c', 'd'))), 68);
-        due("2: the last one kept", text(x)[67], 'c');
-        due("2: a lost byte is not wrong", read(x, 0, join(many(66, ESC, 103, 49), new int[] {'a', 'b', 10})), 2);
-        due("2: an end at 200", read(x, 0, join(many(66, ESC, 103, 49), new int[] {'a', ESC, 103, 49})), -200);
+        due("2: the last one kept", x.character(67), 'c');
         due("2: after a read as many again", read(x, 1, many(100, 'a')), 100);
+        int[] escapes = many(66, ESC, 103, 49);
+        due("2: a lost byte is not wrong", readAnew(0, join(escapes, new int[] {'a', 'b', 10})), 2);
+        due("2: an end at 200", readAnew(0, join(escapes, new int[] {'a', ESC, 103, 49})), -200);
     }
 
     private static void promise3OldKind() {
@@ -228,8 +233,8 @@ public final class PromiseTests {
 
     /** Behind an 'e' each code of kind 1 there is, and each that is one comes out of both kinds as it went in. */
     private static void everyCode() {
-        CharacterRows x = new CharacterRows();
         for (int code = 0; code < 65536; code++) {
+            CharacterRows x = new CharacterRows();
             boolean right = isCharacter(code);
             due("3: code " + code, read(x, 1, utf('e', code)), right ? 2 : -2);
             if (right) {
@@ -244,23 +249,23 @@ public final class PromiseTests {
 
     private static void promise3LimitsAndRest() {
         CharacterRows x = new CharacterRows();
-        due("3: 100", read(x, 1, many(100, 'a')), 100);
-        due("3: 101, kind 1", read(x, 1, join(many(100, 'a'), utf(913))), -101);
-        due("3: 101, kind 1, behind longer ones", read(x, 1, join(many(50, utf(913)), many(50, 'a'), utf(768, 'a'))), -151);
-        due("3: 101, kind 0", read(x, 0, many(101, 'a')), -101);
-        due("3: 101, kind 0, behind an escape", read(x, 0, join(many(100, 'a'), new int[] {ESC, 103, 49, 161})), -104);
-        due("3: escape behind the 100th", read(x, 0, join(many(100, 'a'), new int[] {ESC, 103, 49})), 100);
-        due("3: 98 and three", read(x, 0, join(many(98, 'a'), new int[] {201, 202, 'b', 'c'})), -99);
-        due("3: 98 and two", read(x, 0, join(many(98, 'a'), new int[] {201, 'b'})), 100);
-        due("3: 99 and two", read(x, 0, join(many(99, 'a'), new int[] {201, ESC, 103, 49, 161})), -100);
-        due("3: 99 marks", read(x, 0, join(many(99, 201), new int[] {'a'})), 100);
-        due("3: 100 marks", read(x, 0, join(many(100, 201), new int[] {'a'})), -1);
-        due("3: 199 marks", read(x, 0, join(many(199, 201), new int[] {'a'})), -1);
-        due("3: 150 marks and a wrong byte", read(x, 0, join(many(150, 201), new int[] {10})), -151);
-        due("3: 100, marks, a wrong byte", read(x, 0, join(many(100, 'a'), new int[] {201, 10})), -102);
-        due("3: 200 marks", read(x, 0, many(200, 201)), -1);
-        due("3: kind 2 is kind 1", read(x, 2, utf('a', 913)), 2);
-        due("3: kind -1 is kind 1", read(x, -1, utf('a', 913)), 2);
+        due("3: 100", readAnew(1, many(100, 'a')), 100);
+        due("3: 101, kind 1", readAnew(1, join(many(100, 'a'), utf(913))), -101);
+        due("3: 101, kind 1, behind longer ones", readAnew(1, join(many(50, utf(913)), many(50, 'a'), utf(768, 'a'))), -151);
+        due("3: 101, kind 0", readAnew(0, many(101, 'a')), -101);
+        due("3: 101, kind 0, behind an escape", readAnew(0, join(many(100, 'a'), new int[] {ESC, 103, 49, 161})), -104);
+        due("3: escape behind the 100th", readAnew(0, join(many(100, 'a'), new int[] {ESC, 103, 49})), 100);
+        due("3: 98 and three", readAnew(0, join(many(98, 'a'), new int[] {201, 202, 'b', 'c'})), -99);
+        due("3: 98 and two", readAnew(0, join(many(98, 'a'), new int[] {201, 'b'})), 100);
+        due("3: 99 and two", readAnew(0, join(many(99, 'a'), new int[] {201, ESC, 103, 49, 161})), -100);
+        due("3: 99 marks", readAnew(0, join(many(99, 201), new int[] {'a'})), 100);
+        due("3: 100 marks", readAnew(0, join(many(100, 201), new int[] {'a'})), -1);
+        due("3: 199 marks", readAnew(0, join(many(199, 201), new int[] {'a'})), -1);
+        due("3: 150 marks and a wrong byte", readAnew(0, join(many(150, 201), new int[] {10})), -151);
+        due("3: 100, marks, a wrong byte", readAnew(0, join(many(100, 'a'), new int[] {201, 10})), -102);
+        due("3: 200 marks", readAnew(0, many(200, 201)), -1);
+        due("3: kind 2 is kind 1", readAnew(2, utf('a', 913)), 2);
+        due("3: kind -1 is kind 1", readAnew(-1, utf('a', 913)), 2);
         due("3: wrong, and nothing is collected any more", read(x, 0, 10), -1);
         due("3: wrong, and nothing is collected any more", read(x, 0, 'b'), 1);
         due("3: the other", x.same(1), false);
